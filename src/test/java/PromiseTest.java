@@ -29,6 +29,7 @@ public final class PromiseTest {
         promise13Optional();
         promise13Minus();
         promise13Union();
+        promise13EmptyRow();
         promise14Filter();
         promise14Wrong();
         promise15Single();
@@ -100,6 +101,10 @@ public final class PromiseTest {
         due("new: pattern", 0, () -> x.pattern(3, V0, V1, V2));
         due("new: rule", 0, () -> x.addRule('t', 0, 0, 0));
         due("new: shape", 0, () -> x.addShape(0, 0, 0, 0, 0));
+        Triplegarth path = new Triplegarth();
+        path.path(0, V0, 0, V1, true);
+        due("new: rows of the first query", 8L, () -> path.rows(0));
+        due("new: the same anew", 8L, () -> path.rowsAnew(0));
     }
 
     private static void promise2Add() {
@@ -518,6 +523,39 @@ public final class PromiseTest {
         due("as often as in both", "0,1,- 0,1,- 1,-,9 1,2,- 1,2,-", () -> told(x, 3));
         x.both('u', 3, 3);
         due("with itself", 10L, () -> x.rows(4));
+    }
+
+    /** The row that gives no variable a term is a row like others. */
+    private static void promise13EmptyRow() {
+        Triplegarth x = with(0, 0, 0, 1, 0, 1, 0, 2);
+        x.pattern(0, V0, 0, V1);
+        x.pattern(0, 0, 0, 1);
+        String all = "0,1,- 1,2,-";
+        x.both('j', 0, 1);
+        due("join with the empty row behind", all, () -> told(x, 2));
+        x.both('o', 0, 1);
+        due("optional with it behind", all, () -> told(x, 3));
+        x.both('o', 1, 0);
+        due("optional with it ahead", all, () -> told(x, 4));
+        x.both('m', 1, 0);
+        due("minus from it", "-,-,-", () -> told(x, 5));
+        x.both('u', 1, 1);
+        due("union of it", "-,-,- -,-,-", () -> told(x, 6));
+        x.both('j', 6, 6);
+        due("join of it", 4L, () -> x.rows(7));
+        x.single(7);
+        due("single of it", "-,-,-", () -> told(x, 8));
+        x.filter(6, 'b', 3, 0);
+        due("filter of it", "-,-,- -,-,-", () -> told(x, 9));
+        x.filter(6, '!', V0, 3);
+        due("filter by a place that has none", 0L, () -> x.rows(10));
+        for (int query = 0; query < 11; query++) {
+            int q = query;
+            due("anew " + q, x.rows(q), () -> x.rowsAnew(q));
+        }
+        due("addRows by it", 1, () -> x.addRows(6, 1, 5, 6, 7));
+        due("addRows by it needs terms", 0, () -> x.addRows(6, 1, 5, 6, V0));
+        due("removeRows by it", 1, () -> x.removeRows(6, 1, 5, 6, 7));
     }
 
     private static void promise14Filter() {

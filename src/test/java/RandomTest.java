@@ -120,9 +120,11 @@ public final class RandomTest {
     }
 
     private void turnPlaces(String call, int g, int q, int own) {
-        int s = place();
-        int p = call.equals("path") ? name() : place();
-        int o = place();
+        // Three terms make the row that gives no variable a term.
+        boolean isTold = random.nextInt(6) == 0;
+        int s = isTold ? 0 : place();
+        int p = isTold ? 0 : call.equals("path") ? name() : place();
+        int o = isTold ? random.nextInt(2) : place();
         boolean isAny = random.nextBoolean();
         String told = call + "(" + g + " or " + q + ", " + own + ", " + s + ", " + p + ", " + o + ", " + isAny + ")";
         if (call.equals("pattern")) {
