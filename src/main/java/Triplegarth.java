@@ -17,8 +17,6 @@ public final class Triplegarth {
     private static final int MOST_SHAPES = 6;
     private static final int MOST_OBJECTS_TOLD = 9;
     private static final int MOST_TIMES = 1000000;
-    // Two proofs of this size still add up within an int; no store of 60 triples comes near it.
-    private static final int MOST_PROOF = 1000000000;
     private static final int NONE = -1;
 
     private final Graph[] graphs = new Graph[GRAPHS];
@@ -92,24 +90,24 @@ public final class Triplegarth {
 
     public boolean entails(int graph, int subject, int predicate, int object) throws IllegalArgumentException {
         int triple = askedTriple(graph, GRAPHS, subject, predicate, object);
-        return closed(graph).proofOf(triple) > 0;
+        return closed(graph).proofs.has(triple);
     }
 
     public int leastProof(int graph, int subject, int predicate, int object)
             throws IllegalArgumentException, NoSuchElementException {
         int triple = askedTriple(graph, GRAPHS, subject, predicate, object);
-        int proof = closed(graph).proofOf(triple);
-        if (proof <= 0) {
+        Proofs proofs = closed(graph).proofs;
+        if (!proofs.has(triple)) {
             throw new NoSuchElementException();
         }
-        return proof;
+        return proofs.asInt(triple);
     }
 
     public int entailed(int graph) throws IllegalArgumentException {
         if (!isBelow(graph, GRAPHS)) {
             throw new IllegalArgumentException();
         }
-        return closed(graph).provenCount();
+        return closed(graph).proofs.count();
     }
 
     public boolean setEntailed(boolean isEntailed) {
@@ -300,7 +298,7 @@ public final class Triplegarth {
 
     public float thereShare() throws ArithmeticException {
         Graph all = closed(OWN_GRAPHS);
-        int proven = all.provenCount();
+        int proven = all.proofs.count();
         if (proven <= 0) {
             throw new ArithmeticException();
         }
@@ -309,11 +307,11 @@ public final class Triplegarth {
 
     public double meanProof() throws ArithmeticException {
         Graph all = closed(OWN_GRAPHS);
-        int proven = all.provenCount();
+        int proven = all.proofs.count();
         if (proven <= 0) {
             throw new ArithmeticException();
         }
-        return (double) sum(all.proofs) / (double) proven;
+        return all.proofs.sum() / (double) proven;
     }
 
     public boolean isSound() {
@@ -513,8 +511,8 @@ public final class Triplegarth {
     /** The triples of one graph, and what follows from them. */
     private static final class Graph {
         final boolean[] there = new boolean[TRIPLES];
-        // The least proof of each triple, 0 for one that is not entailed; right only while the graph is closed.
-        final int[] proofs = new int[TRIPLES];
+        // Right only while the graph is closed.
+        final Proofs proofs = new Proofs();
         int count = 0;
         boolean isClosed = false;
         boolean isSeenEntailed = false;
@@ -539,25 +537,8 @@ public final class Triplegarth {
             }
         }
 
-        int proofOf(int triple) {
-            return isBelow(triple, TRIPLES) ? proofs[triple] : 0;
-        }
-
         boolean sees(int triple) {
-            if (!isBelow(triple, TRIPLES)) {
-                return false;
-            }
-            return isSeenEntailed ? proofs[triple] > 0 : there[triple];
-        }
-
-        int provenCount() {
-            int proven = 0;
-            for (int proof : proofs) {
-                if (proof > 0) {
-                    proven++;
-                }
-            }
-            return proven;
+            return isSeenEntailed ? proofs.has(triple) : has(triple);
         }
 
         /** The objects of a subject and a predicate, as the bits of a number. */
@@ -575,21 +556,153 @@ public final class Triplegarth {
             if (isClosed) {
                 return;
             }
-            for (int triple = 0; triple < TRIPLES; triple++) {
-                proofs[triple] = there[triple] ? 1 : 0;
-            }
+            proofs.begin(there);
             // Each round settles at least the smallest proof that was not settled yet, so there are no more rounds
             // with a change than triples.
             boolean isLowered = true;
             for (int round = 0; isLowered && round <= TRIPLES; round++) {
                 isLowered = false;
-                for (int rule = 0; rule < rules.size(); rule++) {
-                    if (rules.get(rule).lower(proofs)) {
-                        isLowered = true;
+                for (int triple = 0; triple < TRIPLES; triple++) {
+                    for (int rule = 0; rule < rules.size(); rule++) {
+                        isLowered |= rules.get(rule).lowerFrom(triple, proofs);
                     }
                 }
             }
             isClosed = true;
+        }
+    }
+
+    /**
+     * The least proofs of the triples of a graph so far. They have no greatest one: by each rule a proof may be twice
+     * another one, so a proof is kept in parts of 62 bits, the lowest one first, as many as the longest proof needs.
+     */
+    private static final class Proofs {
+        static final int BITS = 62;
+        static final long FULL_PART = (1L << BITS) - 1;
+        // A triple that is proven anew has at most twice the greatest proof so far, and the triples that are there
+        // have 1: so no proof has more bits than there are triples, and their sum few more.
+        static final int MOST_PARTS = TRIPLES / BITS + 2;
+
+        // The lowest parts of all triples, then the next ones; all 0 for a triple that is not proven.
+        long[] parts = new long[TRIPLES];
+        int width = 1;
+        final long[] total = new long[MOST_PARTS];
+
+        void begin(boolean[] there) {
+            Arrays.fill(parts, 0);
+            width = 1;
+            for (int triple = 0; triple < there.length && triple < parts.length; triple++) {
+                parts[triple] = there[triple] ? 1 : 0;
+            }
+        }
+
+        long part(int triple, int part) {
+            int index = part * TRIPLES + triple;
+            return triple >= 0 && triple < TRIPLES && index >= 0 && index < parts.length ? parts[index] : 0;
+        }
+
+        boolean has(int triple) {
+            for (int index = triple; isBelow(triple, TRIPLES) && index < parts.length; index += TRIPLES) {
+                if (parts[index] != 0) {
+                    return true;
+                }
+            }
+            return false;
+        }
+
+        int count() {
+            int count = 0;
+            for (int triple = 0; triple < TRIPLES; triple++) {
+                if (has(triple)) {
+                    count++;
+                }
+            }
+            return count;
+        }
+
+        /** Takes the proofs of one and the other, or of one and none, together for a triple, if they are less. */
+        boolean offer(int triple, int one, int other) {
+            if (!isBelow(triple, TRIPLES)) {
+                return false;
+            }
+            boolean isProven = false;
+            boolean isLess = false;
+            long carried = 0;
+            for (int part = 0; part < width && part < MOST_PARTS; part++) {
+                long sum = part(one, part) + part(other, part) + carried;
+                long before = part(triple, part);
+                total[part] = sum & FULL_PART;
+                carried = sum >>> BITS;
+                isProven |= before != 0;
+                // The highest part that differs tells.
+                isLess = total[part] == before ? isLess : total[part] < before;
+            }
+            boolean isTaken = isProven ? isLess && carried == 0 : carried == 0 || widen(carried);
+            for (int part = 0; isTaken && part < width && part < MOST_PARTS; part++) {
+                int index = part * TRIPLES + triple;
+                if (index < parts.length) {
+                    parts[index] = total[part];
+                }
+            }
+            return isTaken;
+        }
+
+        boolean widen(long carried) {
+            if (width >= MOST_PARTS) {
+                return false;
+            }
+            total[width] = carried;
+            width++;
+            if (parts.length < width * TRIPLES) {
+                parts = Arrays.copyOf(parts, width * TRIPLES);
+            }
+            return true;
+        }
+
+        /** The proof of a triple; one above all ints is told as the greatest int. */
+        int asInt(int triple) {
+            for (int part = 1; part < width; part++) {
+                if (part(triple, part) != 0) {
+                    return Integer.MAX_VALUE;
+                }
+            }
+            return (int) Math.min(part(triple, 0), (long) Integer.MAX_VALUE);
+        }
+
+        double sum() {
+            Arrays.fill(total, 0);
+            for (int triple = 0; triple < TRIPLES; triple++) {
+                long carried = 0;
+                for (int part = 0; part < MOST_PARTS; part++) {
+                    long sum = total[part] + part(triple, part) + carried;
+                    total[part] = sum & FULL_PART;
+                    carried = sum >>> BITS;
+                }
+            }
+            return totalAsDouble();
+        }
+
+        /** Rounds once: behind the first 62 bits only whether any bit is set makes a difference. */
+        double totalAsDouble() {
+            long lead = 0;
+            long isMore = 0;
+            int behind = 0;
+            for (int part = MOST_PARTS - 1; part >= 0; part--) {
+                for (int bit = BITS - 1; bit >= 0; bit--) {
+                    long digit = total[part] >> bit & 1;
+                    if (lead <= FULL_PART / 2) {
+                        lead = 2 * lead + digit;
+                    } else {
+                        isMore |= digit;
+                        behind++;
+                    }
+                }
+            }
+            double value = (double) (lead | isMore);
+            for (int doubled = 0; doubled < behind; doubled++) {
+                value = 2.0 * value;
+            }
+            return value;
         }
     }
 
@@ -607,50 +720,27 @@ public final class Triplegarth {
             this.third = kind == 't' ? first : third;
         }
 
-        /** Lowers proofs by this rule, once over all triples, and answers whether one was lowered. */
-        boolean lower(int[] proofs) {
+        /** Lowers the proofs of what follows from a triple; by 't' and 'c' with another triple behind it. */
+        boolean lowerFrom(int triple, Proofs proofs) {
+            if (predicateOf(triple) != first || !proofs.has(triple)) {
+                return false;
+            }
+            int subject = subjectOf(triple);
+            int object = objectOf(triple);
+            if (kind == 's') {
+                return proofs.offer(indexOf(subject, second, object), triple, NONE);
+            }
+            if (kind == 'i') {
+                return proofs.offer(indexOf(object, second, subject), triple, NONE);
+            }
             boolean isLowered = false;
-            for (int subject = 0; subject < NAMES; subject++) {
-                for (int object = 0; object < TERMS; object++) {
-                    int proof = proofIn(proofs, indexOf(subject, first, object));
-                    if (kind == 's') {
-                        isLowered |= offer(proofs, indexOf(subject, second, object), proof);
-                    } else if (kind == 'i') {
-                        isLowered |= offer(proofs, indexOf(object, second, subject), proof);
-                    } else {
-                        isLowered |= lowerBeyond(proofs, subject, object, proof);
-                    }
+            for (int end = 0; end < TERMS; end++) {
+                int behind = indexOf(object, second, end);
+                if (proofs.has(behind)) {
+                    isLowered |= proofs.offer(indexOf(subject, third, end), triple, behind);
                 }
             }
             return isLowered;
-        }
-
-        boolean lowerBeyond(int[] proofs, int subject, int middle, int proof) {
-            boolean isLowered = false;
-            for (int object = 0; proof > 0 && object < TERMS; object++) {
-                int rest = proofIn(proofs, indexOf(middle, second, object));
-                if (rest > 0) {
-                    isLowered |= offer(proofs, indexOf(subject, third, object), proof + rest);
-                }
-            }
-            return isLowered;
-        }
-
-        static int proofIn(int[] proofs, int triple) {
-            return triple >= 0 && triple < proofs.length ? proofs[triple] : 0;
-        }
-
-        /** Takes a proof for a triple if it is one, and less than the proof so far. */
-        static boolean offer(int[] proofs, int triple, int proof) {
-            if (proof <= 0 || triple < 0 || triple >= proofs.length) {
-                return false;
-            }
-            int offered = proof < MOST_PROOF ? proof : MOST_PROOF;
-            if (proofs[triple] > 0 && proofs[triple] <= offered) {
-                return false;
-            }
-            proofs[triple] = offered;
-            return true;
         }
     }
 

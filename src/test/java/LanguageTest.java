@@ -10,7 +10,7 @@ import java.util.regex.Pattern;
 public final class LanguageTest {
     private static final String[] REFUSED = {
         "->", "::", "\\btry\\b", "\\bcatch\\b", "\\bfinally\\b", "\\bsynchronized\\b", "\\bassert\\b", "Exact\\(",
-        "\\bequals\\(", "\\bhashCode\\(", "\\btoString\\(", "\\bdouble\\b(?! meanProof|\\) )", "\\bprotected\\b",
+        "\\bequals\\(", "\\bhashCode\\(", "\\btoString\\(", "\\bDouble\\b", "\\bFloat\\b", "\\bprotected\\b",
         "\\bvar\\b", "\\brecord\\b", "@", "\\bObject\\b", "\\bLong\\.", "\\bSystem\\.", "\\bvolatile\\b", "\\bstatic \\{",
         "\\bstatic (?!final|int|long|boolean|class|abstract)", "while \\(", "\"",
     };

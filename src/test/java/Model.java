@@ -1,3 +1,4 @@
+import java.math.BigInteger;
 import java.util.ArrayList;
 import java.util.Arrays;
 import java.util.Comparator;
@@ -67,14 +68,14 @@ final class Model {
     }
 
     /** Least proofs by settling the smallest one again and again. */
-    private Map<List<Integer>, Long> proofs(int graph) {
-        Map<List<Integer>, Long> open = new TreeMap<>(ORDER);
-        Map<List<Integer>, Long> settled = new TreeMap<>(ORDER);
-        there(graph).forEach(triple -> open.put(triple, 1L));
+    private Map<List<Integer>, BigInteger> proofs(int graph) {
+        Map<List<Integer>, BigInteger> open = new TreeMap<>(ORDER);
+        Map<List<Integer>, BigInteger> settled = new TreeMap<>(ORDER);
+        there(graph).forEach(triple -> open.put(triple, BigInteger.ONE));
         while (!open.isEmpty()) {
             List<Integer> next = null;
             for (List<Integer> triple : open.keySet()) {
-                next = next == null || open.get(triple) < open.get(next) ? triple : next;
+                next = next == null || open.get(triple).compareTo(open.get(next)) < 0 ? triple : next;
             }
             settled.put(next, open.remove(next));
             for (int[] rule : rules) {
@@ -84,8 +85,8 @@ final class Model {
         return settled;
     }
 
-    private static void follow(int[] rule, List<Integer> next, Map<List<Integer>, Long> settled,
-            Map<List<Integer>, Long> open) {
+    private static void follow(int[] rule, List<Integer> next, Map<List<Integer>, BigInteger> settled,
+            Map<List<Integer>, BigInteger> open) {
         int subject = next.get(0);
         int object = next.get(2);
         if (rule[0] == 's' && next.get(1) == rule[1]) {
@@ -98,7 +99,7 @@ final class Model {
             int second = rule[0] == 't' ? rule[1] : rule[2];
             int third = rule[0] == 't' ? rule[1] : rule[3];
             for (List<Integer> other : new ArrayList<>(settled.keySet())) {
-                long sum = settled.get(next) + settled.get(other);
+                BigInteger sum = settled.get(next).add(settled.get(other));
                 if (next.get(1) == rule[1] && other.get(1) == second && other.get(0) == object) {
                     offer(List.of(subject, third, other.get(2)), sum, settled, open);
                 }
@@ -109,10 +110,10 @@ final class Model {
         }
     }
 
-    private static void offer(List<Integer> triple, long proof, Map<List<Integer>, Long> settled,
-            Map<List<Integer>, Long> open) {
+    private static void offer(List<Integer> triple, BigInteger proof, Map<List<Integer>, BigInteger> settled,
+            Map<List<Integer>, BigInteger> open) {
         if (!settled.containsKey(triple)) {
-            open.merge(triple, proof, Math::min);
+            open.merge(triple, proof, BigInteger::min);
         }
     }
 
@@ -163,7 +164,8 @@ final class Model {
 
     int leastProof(int graph, int subject, int predicate, int object) {
         need(entails(graph, subject, predicate, object), new NoSuchElementException());
-        return Math.toIntExact(proofs(graph).get(List.of(subject, predicate, object)));
+        BigInteger proof = proofs(graph).get(List.of(subject, predicate, object));
+        return proof.min(BigInteger.valueOf(Integer.MAX_VALUE)).intValueExact();
     }
 
     int entailed(int graph) {
@@ -473,6 +475,6 @@ final class Model {
 
     double meanProof() {
         need(total() > 0, new ArithmeticException());
-        return (double) proofs(3).values().stream().mapToLong(p -> p).sum() / (double) entailed(3);
+        return proofs(3).values().stream().reduce(BigInteger.ZERO, BigInteger::add).doubleValue() / entailed(3);
     }
 }
