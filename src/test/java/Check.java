@@ -7,12 +7,13 @@ final class Check {
     private int right = 0;
     private int wrong = 0;
 
-    /** What a call answers, or "throws " and the exact exception. */
+    /** What a call answers, or "throws " and the exact exception; what the machine throws has a text of its own. */
     static String said(Call call) {
         try {
             return String.valueOf(call.answer());
         } catch (RuntimeException thrown) {
-            return "throws " + thrown.getClass().getSimpleName();
+            String text = thrown.getMessage() == null ? "" : " of the machine: " + thrown.getMessage();
+            return "throws " + thrown.getClass().getSimpleName() + text;
         }
     }
 

@@ -56,37 +56,6 @@ public final class PromiseTest {
         CHECK.due(what, want, call);
     }
 
-    /** A store with these triples: graph, subject, predicate, object, again and again. */
-    private static Triplegarth with(int... places) {
-        Triplegarth x = new Triplegarth();
-        for (int i = 0; i + 3 < places.length; i += 4) {
-            x.add(places[i], places[i + 1], places[i + 2], places[i + 3]);
-        }
-        return x;
-    }
-
-    /** All rows of a query in their order, as "v0,v1,v2 " with - for none. */
-    private static String told(Triplegarth x, int query) {
-        StringBuilder told = new StringBuilder();
-        long rows = x.rows(query);
-        for (int index = 0; index < rows; index++) {
-            for (int variable = 0; variable < 3; variable++) {
-                int term = x.row(query, index, variable);
-                told.append(variable == 0 ? "" : ",").append(term < 0 ? "-" : String.valueOf(term));
-            }
-            told.append(' ');
-        }
-        return told.toString().trim();
-    }
-
-    private static Triplegarth filled(int triples) {
-        Triplegarth x = new Triplegarth();
-        for (int i = 0; i < triples; i++) {
-            x.add(i % 3, i / 12 % 8, i % 3, i % 12);
-        }
-        return x;
-    }
-
     private static void promise1New() {
         Triplegarth x = new Triplegarth();
         for (int graph = 0; graph < 4; graph++) {
@@ -129,7 +98,7 @@ public final class PromiseTest {
     }
 
     private static void promise2Full() {
-        Triplegarth x = filled(59);
+        Triplegarth x = Stores.filled(59);
         due("add the 60th", true, () -> x.add(0, 7, 7, 7));
         CHECK.dueFull("add the 61st", () -> x.add(1, 7, 7, 7));
         due("add one that is there", false, () -> x.add(0, 7, 7, 7));
@@ -145,7 +114,7 @@ public final class PromiseTest {
     }
 
     private static void promise3Remove() {
-        Triplegarth x = with(0, 1, 2, 3, 1, 1, 2, 3);
+        Triplegarth x = Stores.with(0, 1, 2, 3, 1, 1, 2, 3);
         due("remove what is not there", false, () -> x.remove(2, 1, 2, 3));
         due("remove", true, () -> x.remove(0, 1, 2, 3));
         due("remove again", false, () -> x.remove(0, 1, 2, 3));
@@ -165,7 +134,7 @@ public final class PromiseTest {
     }
 
     private static void promise4Size() {
-        Triplegarth x = with(0, 1, 2, 3, 1, 1, 2, 3, 1, 1, 2, 4, 2, 0, 0, 8);
+        Triplegarth x = Stores.with(0, 1, 2, 3, 1, 1, 2, 3, 1, 1, 2, 4, 2, 0, 0, 8);
         x.addRule('s', 2, 5, 0);
         x.setEntailed(true);
         due("size(0)", 1, () -> x.size(0));
@@ -209,7 +178,7 @@ public final class PromiseTest {
     }
 
     private static void promise6ClearRules() {
-        Triplegarth x = with(0, 0, 0, 1);
+        Triplegarth x = Stores.with(0, 0, 0, 1);
         due("clear none", 0, () -> x.clearRules());
         x.addRule('s', 0, 1, 0);
         x.addRule('s', 0, 2, 0);
@@ -223,7 +192,7 @@ public final class PromiseTest {
     }
 
     private static void promise7Entails() {
-        Triplegarth x = with(0, 0, 0, 1, 1, 1, 0, 2, 0, 3, 5, 9, 0, 4, 5, 4);
+        Triplegarth x = Stores.with(0, 0, 0, 1, 1, 1, 0, 2, 0, 3, 5, 9, 0, 4, 5, 4);
         x.addRule('t', 0, 0, 0);
         x.addRule('i', 5, 6, 0);
         due("what is there", true, () -> x.entails(0, 0, 0, 1));
@@ -243,7 +212,7 @@ public final class PromiseTest {
             CHECK.dueIllegal("predicate " + off, () -> x.entails(0, 0, off, 0));
             CHECK.dueIllegal("object " + off, () -> x.entails(0, 0, 0, off));
         }
-        Triplegarth c = with(0, 0, 1, 3, 0, 3, 2, 8, 0, 3, 1, 5, 0, 4, 2, 3);
+        Triplegarth c = Stores.with(0, 0, 1, 3, 0, 3, 2, 8, 0, 3, 1, 5, 0, 4, 2, 3);
         c.addRule('c', 1, 2, 7);
         due("c", true, () -> c.entails(0, 0, 7, 8));
         due("c takes the first predicate ahead", false, () -> c.entails(0, 4, 7, 5));
@@ -251,7 +220,7 @@ public final class PromiseTest {
     }
 
     private static void promise8LeastProof() {
-        Triplegarth x = with(0, 0, 0, 1, 0, 1, 0, 2, 0, 2, 0, 3);
+        Triplegarth x = Stores.with(0, 0, 0, 1, 0, 1, 0, 2, 0, 2, 0, 3);
         x.addRule('t', 0, 0, 0);
         x.addRule('s', 0, 1, 0);
         x.addRule('i', 1, 2, 0);
@@ -276,7 +245,7 @@ public final class PromiseTest {
     }
 
     private static void promise8LongProofs() {
-        Triplegarth x = with(0, 0, 0, 0);
+        Triplegarth x = Stores.with(0, 0, 0, 0);
         for (int predicate = 0; predicate < 7; predicate++) {
             x.addRule('c', predicate, predicate, predicate + 1);
         }
@@ -291,7 +260,7 @@ public final class PromiseTest {
     }
 
     private static void promise9Entailed() {
-        Triplegarth x = with(0, 0, 0, 1, 1, 1, 0, 2, 2, 0, 0, 1);
+        Triplegarth x = Stores.with(0, 0, 0, 1, 1, 1, 0, 2, 2, 0, 0, 1);
         x.addRule('t', 0, 0, 0);
         x.addRule('s', 0, 1, 0);
         due("entailed(0)", 2, () -> x.entailed(0));
@@ -307,7 +276,7 @@ public final class PromiseTest {
     }
 
     private static void promise10SetEntailed() {
-        Triplegarth x = with(0, 0, 0, 1);
+        Triplegarth x = Stores.with(0, 0, 0, 1);
         x.addRule('s', 0, 1, 0);
         x.pattern(0, V0, V1, V2);
         x.path(0, V0, 1, V1, false);
@@ -322,13 +291,13 @@ public final class PromiseTest {
     }
 
     private static void promise11Pattern() {
-        Triplegarth x = with(0, 1, 2, 3, 0, 1, 2, 9, 1, 1, 2, 3, 1, 4, 4, 4, 2, 2, 1, 2);
+        Triplegarth x = Stores.with(0, 1, 2, 3, 0, 1, 2, 9, 1, 1, 2, 3, 1, 4, 4, 4, 2, 2, 1, 2);
         due("all of graph 0", 0, () -> x.pattern(0, V0, V1, V2));
-        due("rows", "1,2,3 1,2,9", () -> told(x, 0));
+        due("rows", "1,2,3 1,2,9", () -> Stores.told(x, 0));
         due("graph 3 has each once", 1, () -> x.pattern(3, V0, V1, V2));
-        due("rows", "1,2,3 1,2,9 2,1,2 4,4,4", () -> told(x, 1));
+        due("rows", "1,2,3 1,2,9 2,1,2 4,4,4", () -> Stores.told(x, 1));
         due("terms told", 2, () -> x.pattern(3, 1, 2, 3));
-        due("one empty row", "-,-,-", () -> told(x, 2));
+        due("one empty row", "-,-,-", () -> Stores.told(x, 2));
         due("no row", 3, () -> x.pattern(3, 1, 2, 4));
         due("none", 0L, () -> x.rows(3));
         due("a number is no subject", 4, () -> x.pattern(3, 9, V0, V1));
@@ -350,29 +319,29 @@ public final class PromiseTest {
     }
 
     private static void promise11Variables() {
-        Triplegarth x = with(0, 1, 2, 1, 0, 1, 1, 2, 0, 2, 1, 1, 0, 3, 3, 3, 0, 1, 2, 8);
+        Triplegarth x = Stores.with(0, 1, 2, 1, 0, 1, 1, 2, 0, 2, 1, 1, 0, 3, 3, 3, 0, 1, 2, 8);
         x.pattern(0, V1, V2, V1);
-        due("subject is object", "-,1,2 -,3,3", () -> told(x, 0));
+        due("subject is object", "-,1,2 -,3,3", () -> Stores.told(x, 0));
         x.pattern(0, V0, V0, V2);
-        due("subject is predicate", "1,-,2 3,-,3", () -> told(x, 1));
+        due("subject is predicate", "1,-,2 3,-,3", () -> Stores.told(x, 1));
         x.pattern(0, V0, V1, V1);
-        due("predicate is object", "2,1,- 3,3,-", () -> told(x, 2));
+        due("predicate is object", "2,1,- 3,3,-", () -> Stores.told(x, 2));
         x.pattern(0, V2, V2, V2);
-        due("all the same", "-,-,3", () -> told(x, 3));
+        due("all the same", "-,-,3", () -> Stores.told(x, 3));
         x.pattern(0, V2, 2, V0);
-        due("order by variable 0", "1,-,1 8,-,1", () -> told(x, 4));
+        due("order by variable 0", "1,-,1 8,-,1", () -> Stores.told(x, 4));
     }
 
     private static void promise12Path() {
-        Triplegarth x = with(0, 0, 0, 1, 1, 1, 0, 2, 0, 2, 0, 0, 0, 2, 0, 11, 0, 1, 1, 5);
+        Triplegarth x = Stores.with(0, 0, 0, 1, 1, 1, 0, 2, 0, 2, 0, 0, 0, 2, 0, 11, 0, 1, 1, 5);
         due("+ in one graph", 0, () -> x.path(0, V0, 0, V1, false));
-        due("rows", "0,1,- 2,0,- 2,1,- 2,11,-", () -> told(x, 0));
+        due("rows", "0,1,- 2,0,- 2,1,- 2,11,-", () -> Stores.told(x, 0));
         due("+ over all", 1, () -> x.path(3, V0, 0, V1, false));
         due("rows", 12L, () -> x.rows(1));
         due("* over all", 2, () -> x.path(3, V0, 0, V1, true));
         due("five more", 17L, () -> x.rows(2));
         due("* of an empty graph", 3, () -> x.path(2, V0, 0, V1, true));
-        due("8 names", "0,0,- 1,1,- 2,2,- 3,3,- 4,4,- 5,5,- 6,6,- 7,7,-", () -> told(x, 3));
+        due("8 names", "0,0,- 1,1,- 2,2,- 3,3,- 4,4,- 5,5,- 6,6,- 7,7,-", () -> Stores.told(x, 3));
         due("+ of an empty graph", 4, () -> x.path(2, V0, 0, V1, false));
         due("none", 0L, () -> x.rows(4));
         CHECK.dueIllegal("graph 4", () -> x.path(4, V0, 0, V1, true));
@@ -393,21 +362,21 @@ public final class PromiseTest {
     }
 
     private static void promise12Places() {
-        Triplegarth x = with(0, 0, 0, 1, 0, 1, 0, 2, 0, 2, 0, 0, 0, 2, 0, 11, 0, 3, 0, 4);
+        Triplegarth x = Stores.with(0, 0, 0, 1, 0, 1, 0, 2, 0, 2, 0, 0, 0, 2, 0, 11, 0, 3, 0, 4);
         x.path(0, V2, 0, V2, false);
-        due("+ in rings", "-,-,0 -,-,1 -,-,2", () -> told(x, 0));
+        due("+ in rings", "-,-,0 -,-,1 -,-,2", () -> Stores.told(x, 0));
         x.path(0, V2, 0, V2, true);
         due("* in rings", 8L, () -> x.rows(1));
         x.path(0, 3, 0, V1, true);
-        due("* from 3", "-,3,- -,4,-", () -> told(x, 2));
+        due("* from 3", "-,3,- -,4,-", () -> Stores.told(x, 2));
         x.path(0, V0, 0, 11, true);
-        due("* to 11", "0,-,- 1,-,- 2,-,-", () -> told(x, 3));
+        due("* to 11", "0,-,- 1,-,- 2,-,-", () -> Stores.told(x, 3));
         x.path(0, 11, 0, V0, true);
         due("* from a number", 0L, () -> x.rows(4));
         x.path(0, 11, 0, 11, true);
         due("* from a number to itself", 0L, () -> x.rows(5));
         x.path(0, 6, 0, 6, true);
-        due("* from a name to itself", "-,-,-", () -> told(x, 6));
+        due("* from a name to itself", "-,-,-", () -> Stores.told(x, 6));
         x.path(0, 6, 0, 6, false);
         due("+ from a name to itself", 0L, () -> x.rows(7));
         x.path(0, 0, 0, 0, true);
@@ -415,7 +384,7 @@ public final class PromiseTest {
     }
 
     private static void promise13Wrong() {
-        Triplegarth x = with(0, 0, 0, 1);
+        Triplegarth x = Stores.with(0, 0, 0, 1);
         CHECK.dueIllegal("kind ahead of queries", () -> x.both('x', 0, 0));
         CHECK.dueNoIndex("no query", () -> x.both('j', 0, 0));
         x.pattern(0, V0, V1, V2);
@@ -435,17 +404,17 @@ public final class PromiseTest {
     }
 
     private static void promise13Join() {
-        Triplegarth x = with(0, 0, 0, 1, 0, 1, 0, 2, 0, 1, 1, 9, 0, 1, 1, 10, 0, 0, 1, 9);
+        Triplegarth x = Stores.with(0, 0, 0, 1, 0, 1, 0, 2, 0, 1, 1, 9, 0, 1, 1, 10, 0, 0, 1, 9);
         x.pattern(0, V0, 0, V1);
         x.pattern(0, V0, 1, V2);
         x.both('j', 0, 1);
-        due("join", "0,1,9 1,2,9 1,2,10", () -> told(x, 2));
+        due("join", "0,1,9 1,2,9 1,2,10", () -> Stores.told(x, 2));
         x.pattern(0, V1, 0, V2);
         x.both('j', 0, 3);
-        due("join over a middle", "0,1,2", () -> told(x, 4));
+        due("join over a middle", "0,1,2", () -> Stores.told(x, 4));
         x.pattern(0, 0, 0, 1);
         x.both('j', 5, 0);
-        due("with the empty row", "0,1,- 1,2,-", () -> told(x, 6));
+        due("with the empty row", "0,1,- 1,2,-", () -> Stores.told(x, 6));
         x.pattern(0, 0, 0, 7);
         x.both('j', 0, 7);
         due("with no row", 0L, () -> x.rows(8));
@@ -461,92 +430,92 @@ public final class PromiseTest {
     }
 
     private static void promise13Optional() {
-        Triplegarth x = with(0, 0, 0, 1, 0, 1, 0, 2, 0, 1, 1, 9, 0, 1, 1, 10, 0, 5, 5, 5);
+        Triplegarth x = Stores.with(0, 0, 0, 1, 0, 1, 0, 2, 0, 1, 1, 9, 0, 1, 1, 10, 0, 5, 5, 5);
         x.pattern(0, V0, 0, V1);
         x.pattern(0, V0, 1, V2);
         x.both('o', 0, 1);
-        due("optional", "0,1,- 1,2,9 1,2,10", () -> told(x, 2));
+        due("optional", "0,1,- 1,2,9 1,2,10", () -> Stores.told(x, 2));
         x.both('u', 0, 0);
         x.both('o', 3, 1);
-        due("as often", "0,1,- 0,1,- 1,2,9 1,2,9 1,2,10 1,2,10", () -> told(x, 4));
+        due("as often", "0,1,- 0,1,- 1,2,9 1,2,9 1,2,10 1,2,10", () -> Stores.told(x, 4));
         x.pattern(0, 7, 7, 7);
         x.both('o', 0, 5);
-        due("with no row", "0,1,- 1,2,-", () -> told(x, 6));
+        due("with no row", "0,1,- 1,2,-", () -> Stores.told(x, 6));
         x.both('o', 5, 0);
         due("from no row", 0L, () -> x.rows(7));
         x.pattern(0, V0, 1, V1);
         x.both('o', 0, 8);
-        due("none goes together", "0,1,- 1,2,-", () -> told(x, 9));
+        due("none goes together", "0,1,- 1,2,-", () -> Stores.told(x, 9));
         x.both('o', 2, 9);
-        due("of optionals", "0,1,- 1,2,9 1,2,10", () -> told(x, 10));
+        due("of optionals", "0,1,- 1,2,9 1,2,10", () -> Stores.told(x, 10));
         x.pattern(0, V0, 5, V2);
         x.both('o', 2, 11);
         due("a row without the variable goes together with none of another name", "0,1,- 1,2,9 1,2,10",
-                () -> told(x, 12));
+                () -> Stores.told(x, 12));
     }
 
     private static void promise13Minus() {
-        Triplegarth x = with(0, 0, 0, 1, 0, 1, 0, 2, 0, 1, 1, 9);
+        Triplegarth x = Stores.with(0, 0, 0, 1, 0, 1, 0, 2, 0, 1, 1, 9);
         x.pattern(0, V0, 0, V1);
         x.pattern(0, V0, 1, V2);
         x.both('m', 0, 1);
-        due("minus", "0,1,-", () -> told(x, 2));
+        due("minus", "0,1,-", () -> Stores.told(x, 2));
         x.pattern(0, V2, 1, 9);
         x.both('m', 0, 3);
-        due("no variable in common", "0,1,- 1,2,-", () -> told(x, 4));
+        due("no variable in common", "0,1,- 1,2,-", () -> Stores.told(x, 4));
         x.pattern(0, 1, 1, 9);
         x.both('m', 0, 5);
-        due("the empty row takes none", "0,1,- 1,2,-", () -> told(x, 6));
+        due("the empty row takes none", "0,1,- 1,2,-", () -> Stores.told(x, 6));
         x.both('m', 5, 5);
-        due("the empty row stays", "-,-,-", () -> told(x, 7));
+        due("the empty row stays", "-,-,-", () -> Stores.told(x, 7));
         x.both('u', 0, 0);
         x.both('m', 8, 1);
-        due("as often", "0,1,- 0,1,-", () -> told(x, 9));
+        due("as often", "0,1,- 0,1,-", () -> Stores.told(x, 9));
         x.both('m', 0, 0);
         due("from itself", 0L, () -> x.rows(10));
         x.both('o', 0, 1);
         x.pattern(0, V2, V1, V0);
         x.both('m', 11, 12);
-        due("a variable in common that has another term", "0,1,- 1,2,9", () -> told(x, 13));
+        due("a variable in common that has another term", "0,1,- 1,2,9", () -> Stores.told(x, 13));
         x.pattern(0, V2, 1, 9);
         x.both('m', 11, 14);
-        due("none has no variable in common", "0,1,- 1,2,9", () -> told(x, 15));
+        due("none has no variable in common", "0,1,- 1,2,9", () -> Stores.told(x, 15));
     }
 
     private static void promise13Union() {
-        Triplegarth x = with(0, 0, 0, 1, 0, 1, 0, 2, 0, 1, 1, 9);
+        Triplegarth x = Stores.with(0, 0, 0, 1, 0, 1, 0, 2, 0, 1, 1, 9);
         x.pattern(0, V0, 0, V1);
         x.pattern(0, V0, 1, V2);
         x.both('u', 0, 1);
-        due("union", "0,1,- 1,-,9 1,2,-", () -> told(x, 2));
+        due("union", "0,1,- 1,-,9 1,2,-", () -> Stores.told(x, 2));
         x.both('u', 2, 0);
-        due("as often as in both", "0,1,- 0,1,- 1,-,9 1,2,- 1,2,-", () -> told(x, 3));
+        due("as often as in both", "0,1,- 0,1,- 1,-,9 1,2,- 1,2,-", () -> Stores.told(x, 3));
         x.both('u', 3, 3);
         due("with itself", 10L, () -> x.rows(4));
     }
 
     /** The row that gives no variable a term is a row like others. */
     private static void promise13EmptyRow() {
-        Triplegarth x = with(0, 0, 0, 1, 0, 1, 0, 2);
+        Triplegarth x = Stores.with(0, 0, 0, 1, 0, 1, 0, 2);
         x.pattern(0, V0, 0, V1);
         x.pattern(0, 0, 0, 1);
         String all = "0,1,- 1,2,-";
         x.both('j', 0, 1);
-        due("join with the empty row behind", all, () -> told(x, 2));
+        due("join with the empty row behind", all, () -> Stores.told(x, 2));
         x.both('o', 0, 1);
-        due("optional with it behind", all, () -> told(x, 3));
+        due("optional with it behind", all, () -> Stores.told(x, 3));
         x.both('o', 1, 0);
-        due("optional with it ahead", all, () -> told(x, 4));
+        due("optional with it ahead", all, () -> Stores.told(x, 4));
         x.both('m', 1, 0);
-        due("minus from it", "-,-,-", () -> told(x, 5));
+        due("minus from it", "-,-,-", () -> Stores.told(x, 5));
         x.both('u', 1, 1);
-        due("union of it", "-,-,- -,-,-", () -> told(x, 6));
+        due("union of it", "-,-,- -,-,-", () -> Stores.told(x, 6));
         x.both('j', 6, 6);
         due("join of it", 4L, () -> x.rows(7));
         x.single(7);
-        due("single of it", "-,-,-", () -> told(x, 8));
+        due("single of it", "-,-,-", () -> Stores.told(x, 8));
         x.filter(6, 'b', 3, 0);
-        due("filter of it", "-,-,- -,-,-", () -> told(x, 9));
+        due("filter of it", "-,-,- -,-,-", () -> Stores.told(x, 9));
         x.filter(6, '!', V0, 3);
         due("filter by a place that has none", 0L, () -> x.rows(10));
         for (int query = 0; query < 11; query++) {
@@ -559,35 +528,35 @@ public final class PromiseTest {
     }
 
     private static void promise14Filter() {
-        Triplegarth x = with(0, 0, 0, 8, 0, 1, 0, 11, 0, 2, 0, 2, 0, 3, 1, 4, 0, 4, 0, 9);
+        Triplegarth x = Stores.with(0, 0, 0, 8, 0, 1, 0, 11, 0, 2, 0, 2, 0, 3, 1, 4, 0, 4, 0, 9);
         x.pattern(0, V0, 0, V1);
         x.pattern(0, V0, 1, V2);
         x.both('u', 0, 1);
         due("= ", 3, () -> x.filter(2, '=', V0, V1));
-        due("= rows", "2,2,-", () -> told(x, 3));
+        due("= rows", "2,2,-", () -> Stores.told(x, 3));
         due("!", 4, () -> x.filter(2, '!', V0, V1));
-        due("! rows", "0,8,- 1,11,- 4,9,-", () -> told(x, 4));
+        due("! rows", "0,8,- 1,11,- 4,9,-", () -> Stores.told(x, 4));
         due("<", 5, () -> x.filter(2, '<', 8, V1));
-        due("< rows", "1,11,- 4,9,-", () -> told(x, 5));
+        due("< rows", "1,11,- 4,9,-", () -> Stores.told(x, 5));
         due("< the other way", 6, () -> x.filter(2, '<', V1, 11));
-        due("< rows", "0,8,- 4,9,-", () -> told(x, 6));
+        due("< rows", "0,8,- 4,9,-", () -> Stores.told(x, 6));
         due("< of names", 7, () -> x.filter(2, '<', V0, V1));
         due("< rows", 0L, () -> x.rows(7));
         due("b", 8, () -> x.filter(2, 'b', V1, 23));
-        due("b rows", "0,8,- 1,11,- 2,2,- 4,9,-", () -> told(x, 8));
+        due("b rows", "0,8,- 1,11,- 2,2,- 4,9,-", () -> Stores.told(x, 8));
         due("b of a term", 9, () -> x.filter(2, 'b', 5, Integer.MIN_VALUE));
         due("b rows", 5L, () -> x.rows(9));
         due("= of none", 10, () -> x.filter(2, '=', V2, V2));
-        due("= rows", "3,-,4", () -> told(x, 10));
+        due("= rows", "3,-,4", () -> Stores.told(x, 10));
         due("! of none", 11, () -> x.filter(2, '!', V2, 3));
-        due("! rows", "3,-,4", () -> told(x, 11));
+        due("! rows", "3,-,4", () -> Stores.told(x, 11));
         due("= of terms", 12, () -> x.filter(2, '=', 4, 4));
         due("= rows", 5L, () -> x.rows(12));
         due("! of terms", 13, () -> x.filter(2, '!', 4, 4));
         due("! rows", 0L, () -> x.rows(13));
         x.both('u', 2, 2);
         x.filter(14, '=', V1, 8);
-        due("as often", "0,8,- 0,8,-", () -> told(x, 15));
+        due("as often", "0,8,- 0,8,-", () -> Stores.told(x, 15));
         due("< of the same number", 16, () -> x.filter(2, '<', 10, 10));
         due("< rows", 0L, () -> x.rows(16));
         due("< with a name ahead", 17, () -> x.filter(2, '<', 7, 8));
@@ -595,7 +564,7 @@ public final class PromiseTest {
     }
 
     private static void promise14Wrong() {
-        Triplegarth x = with(0, 0, 0, 8);
+        Triplegarth x = Stores.with(0, 0, 0, 8);
         CHECK.dueNoIndex("no query", () -> x.filter(0, 'x', 99, 99));
         x.pattern(0, V0, V1, V2);
         CHECK.dueNoIndex("query -1", () -> x.filter(-1, '=', 0, 0));
@@ -618,12 +587,12 @@ public final class PromiseTest {
     }
 
     private static void promise15Single() {
-        Triplegarth x = with(0, 0, 0, 8, 0, 1, 0, 9);
+        Triplegarth x = Stores.with(0, 0, 0, 8, 0, 1, 0, 9);
         CHECK.dueNoIndex("no query", () -> x.single(0));
         x.pattern(0, V0, V1, V2);
         x.both('u', 0, 0);
         due("single", 2, () -> x.single(1));
-        due("each once", "0,0,8 1,0,9", () -> told(x, 2));
+        due("each once", "0,0,8 1,0,9", () -> Stores.told(x, 2));
         due("single of a single", 3, () -> x.single(2));
         due("the same", 2L, () -> x.rows(3));
         CHECK.dueNoIndex("query -1", () -> x.single(-1));
@@ -636,7 +605,7 @@ public final class PromiseTest {
     }
 
     private static void promise16Rows() {
-        Triplegarth x = with(0, 0, 0, 8);
+        Triplegarth x = Stores.with(0, 0, 0, 8);
         CHECK.dueNoIndex("no query", () -> x.rows(0));
         x.pattern(3, V0, V1, V2);
         due("rows", 1L, () -> x.rows(0));
@@ -657,7 +626,7 @@ public final class PromiseTest {
     }
 
     private static void promise16Cap() {
-        Triplegarth x = with(0, 0, 0, 8, 0, 1, 0, 9);
+        Triplegarth x = Stores.with(0, 0, 0, 8, 0, 1, 0, 9);
         x.pattern(0, V0, 0, V1);
         x.both('u', 0, 0);
         for (int i = 1; i < 5; i++) {
@@ -686,7 +655,7 @@ public final class PromiseTest {
     }
 
     private static void promise17RowsAnew() {
-        Triplegarth x = with(0, 0, 0, 8, 0, 1, 0, 0, 0, 0, 1, 9, 1, 2, 2, 2);
+        Triplegarth x = Stores.with(0, 0, 0, 8, 0, 1, 0, 0, 0, 0, 1, 9, 1, 2, 2, 2);
         CHECK.dueNoIndex("no query", () -> x.rowsAnew(0));
         x.pattern(3, V0, V1, V2);
         x.pattern(3, V0, 0, V1);
@@ -712,7 +681,7 @@ public final class PromiseTest {
     }
 
     private static void promise18Row() {
-        Triplegarth x = with(0, 0, 0, 11, 0, 7, 0, 0, 0, 3, 1, 9);
+        Triplegarth x = Stores.with(0, 0, 0, 11, 0, 7, 0, 0, 0, 3, 1, 9);
         x.pattern(0, V2, 0, V0);
         x.pattern(0, V1, 1, V0);
         x.both('u', 0, 1);
@@ -720,7 +689,7 @@ public final class PromiseTest {
         x.both('u', 2, 3);
         x.both('u', 4, 4);
         due("none ahead of all, each as often", "-,-,- -,-,- 0,-,7 0,-,7 9,3,- 9,3,- 11,-,0 11,-,0",
-                () -> told(x, 5));
+                () -> Stores.told(x, 5));
         due("a term", 9, () -> x.row(5, 5, 0));
         due("none", -1, () -> x.row(5, 5, 2));
         x.remove(0, 3, 1, 9);
@@ -728,7 +697,7 @@ public final class PromiseTest {
     }
 
     private static void promise18Wrong() {
-        Triplegarth x = with(0, 0, 0, 11);
+        Triplegarth x = Stores.with(0, 0, 0, 11);
         CHECK.dueNoIndex("no query", () -> x.row(0, -1, 3));
         x.pattern(0, V0, V1, V2);
         CHECK.dueNoIndex("query -1", () -> x.row(-1, -1, 3));
@@ -745,7 +714,7 @@ public final class PromiseTest {
     }
 
     private static void promise19Different() {
-        Triplegarth x = with(0, 0, 0, 11, 0, 1, 0, 11, 0, 1, 1, 11);
+        Triplegarth x = Stores.with(0, 0, 0, 11, 0, 1, 0, 11, 0, 1, 1, 11);
         CHECK.dueNoIndex("no query", () -> x.different(0));
         x.pattern(0, V0, V1, V2);
         x.both('u', 0, 0);
@@ -759,7 +728,7 @@ public final class PromiseTest {
     }
 
     private static void promise20AddRows() {
-        Triplegarth x = with(0, 0, 0, 1, 0, 1, 0, 9, 0, 2, 1, 3);
+        Triplegarth x = Stores.with(0, 0, 0, 1, 0, 1, 0, 9, 0, 2, 1, 3);
         CHECK.dueNoIndex("no query", () -> x.addRows(0, 3, 99, 99, 99));
         x.pattern(0, V0, 0, V1);
         x.pattern(0, V0, 1, V2);
@@ -788,7 +757,7 @@ public final class PromiseTest {
     }
 
     private static void promise20Edges() {
-        Triplegarth x = filled(40);
+        Triplegarth x = Stores.filled(40);
         x.pattern(3, V0, V1, V2);
         x.pattern(0, V0, V1, V2);
         long sum = x.checksum();
@@ -805,7 +774,7 @@ public final class PromiseTest {
         x.remove(2, 0, 6, 0);
         due("one new in the last place", 1, () -> x.addRows(1, 0, 7, 7, 7));
         CHECK.dueIllegal("wrong in a full store", () -> x.addRows(1, 3, 7, 7, 6));
-        Triplegarth ring = with(0, 0, 0, 1, 0, 1, 0, 2);
+        Triplegarth ring = Stores.with(0, 0, 0, 1, 0, 1, 0, 2);
         ring.addRule('t', 0, 0, 0);
         ring.pattern(0, V0, 0, V1);
         ring.setEntailed(true);
@@ -814,7 +783,7 @@ public final class PromiseTest {
     }
 
     private static void promise21RemoveRows() {
-        Triplegarth x = with(0, 0, 0, 1, 0, 1, 0, 9, 1, 1, 0, 9, 1, 1, 0, 0, 0, 2, 1, 3);
+        Triplegarth x = Stores.with(0, 0, 0, 1, 0, 1, 0, 9, 1, 1, 0, 9, 1, 1, 0, 0, 0, 2, 1, 3);
         CHECK.dueNoIndex("no query", () -> x.removeRows(0, 3, 99, 99, 99));
         x.pattern(0, V0, 0, V1);
         x.pattern(0, V0, 1, V2);
@@ -863,7 +832,7 @@ public final class PromiseTest {
     }
 
     private static void promise23Faults() {
-        Triplegarth x = with(0, 0, 0, 1, 0, 0, 0, 2, 0, 0, 1, 8, 0, 3, 0, 3, 1, 3, 1, 3, 0, 4, 1, 4);
+        Triplegarth x = Stores.with(0, 0, 0, 1, 0, 0, 0, 2, 0, 0, 1, 8, 0, 3, 0, 3, 1, 3, 1, 3, 0, 4, 1, 4);
         x.addShape(0, 0, 1, 1, 1);
         due("3 has no 1 in graph 0", 1, () -> x.faults());
         x.addShape(3, 0, 1, 1, 1);
@@ -881,7 +850,7 @@ public final class PromiseTest {
     }
 
     private static void promise24FaultAt() {
-        Triplegarth x = with(0, 7, 0, 1, 0, 2, 0, 2, 0, 2, 1, 8, 0, 0, 1, 3);
+        Triplegarth x = Stores.with(0, 7, 0, 1, 0, 2, 0, 2, 0, 2, 1, 8, 0, 0, 1, 3);
         CHECK.dueNoIndex("no shape", () -> x.faultAt(0));
         x.addShape(0, 0, 2, 1, 9);
         x.addShape(0, 1, 2, 0, 0);
