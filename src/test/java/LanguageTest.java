@@ -32,7 +32,18 @@ public final class LanguageTest {
         }
         check.due("signs 1 to 127", true, () -> whole.chars().allMatch(sign -> sign >= 1 && sign <= 127));
         methods(check, code.split("\n"));
+        exceptions(check, code);
         check.finish("LanguageTest");
+    }
+
+    /** Each throw makes one of the exceptions that the document names, and without a text. */
+    private static void exceptions(Check check, String code) {
+        Matcher thrown = Pattern.compile("\\bthrow\\b([^;]*);").matcher(code);
+        String right = " new (IllegalState|IllegalArgument|IndexOutOfBounds|NoSuchElement|Arithmetic)Exception\\(\\)";
+        while (thrown.find()) {
+            String what = thrown.group(1);
+            check.due("throw" + what, true, () -> what.matches(right));
+        }
     }
 
     /** A method begins where a line of the depth of its class opens a brace, and ends with the brace below it. */
